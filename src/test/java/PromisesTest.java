@@ -19,6 +19,7 @@ public final class PromisesTest {
         newObject();
         promise = 2;
         build();
+        buildClearsAll();
         promise = 3;
         add();
         waiterChooses();
@@ -150,6 +151,34 @@ public final class PromisesTest {
         due("build(1)", x.build(1), 1);
         due("stage(0)", x.stage(0), NONE);
         due("stage(1)", x.stage(1), UNKNOWN);
+    }
+
+    /** At each time of a busy line, with all wires up somewhere and a request that waits: nothing of it stays. */
+    private static void buildClearsAll() {
+        int[] link = {2, 2, 2, 0, 0, 0, 0, 0, 0, 1, 0, 0, 1};
+        for (int ticks = 1; ticks <= 60; ticks++) {
+            FourPhases x = new FourPhases();
+            x.set(1, 20);
+            for (int word = 1; word < 9; word++) {
+                x.add(1, word);
+            }
+            x.setDelay(2, 2, 3);
+            x.run(ticks);
+            x.build(3);
+            for (int k = 0; k <= 3; k++) {
+                for (int what = 0; what < link.length; what++) {
+                    due("link(" + k + ", " + what + ")", x.link(k, what), link[what]);
+                }
+            }
+            for (int what = 1; what <= 8; what++) {
+                due("total(" + what + ")", x.total(what), 0);
+            }
+            x.add(0, 9);
+            due("finish", x.finish(), 18 + 20);
+            due("the first word is right", x.noted(0, 2), 1);
+            due("noted", x.total(6), 1);
+            due("right", x.total(7), 1);
+        }
     }
 
     private static void add() {
@@ -345,6 +374,19 @@ public final class PromisesTest {
         due("history", x.total(13), 2);
         due("finish", x.finish(), NONE);
         due("history", x.total(13), 2);
+        // The last change may arrive at the greatest time, and not later.
+        for (int i = 0; i < 999; i++) {
+            x.run(1000);
+        }
+        x.run(964);
+        due("time", x.total(1), 999982);
+        x.add(0, 1);
+        x.keep();
+        due("finish at the greatest time", x.finish(), 18);
+        x.restore();
+        x.setDelay(3, 1, 3);
+        due("finish later", x.finish(), FULL);
+        due("time", x.total(1), 999982);
         // Data that arrive after the four steps are under way too.
         x.build(1);
         x.setDelay(1, 2, 20);
