@@ -1,3 +1,4 @@
+import java.lang.reflect.Array;
 import java.lang.reflect.Constructor;
 import java.lang.reflect.Field;
 import java.lang.reflect.Method;
@@ -5,9 +6,15 @@ import java.lang.reflect.Modifier;
 import java.nio.charset.StandardCharsets;
 import java.nio.file.Files;
 import java.nio.file.Path;
+import java.util.ArrayDeque;
 import java.util.Arrays;
+import java.util.IdentityHashMap;
+import java.util.Map;
 import java.util.Set;
+import java.util.TreeMap;
 import java.util.TreeSet;
+import java.util.regex.Matcher;
+import java.util.regex.Pattern;
 
 /** The rules of LANGUAGE.md that can be seen from outside: the face, the kinds of fields, and words that are ruled out. */
 public final class RulesTest {
@@ -23,6 +30,10 @@ public final class RulesTest {
     private static final int MOST_FIELDS = 20;
     private static final int MOST_CLASSES = 12;
     private static final int MOST_PARAMETERS = 7;
+    private static final int DEEPEST_CALLS = 8;
+    /** The room of a run holds a thousand objects of the class then. */
+    private static final int MOST_OBJECTS = 600;
+    private static final int MOST_ELEMENTS = 7300;
     private static int wrong = 0;
 
     private static void hold(boolean holds, String what) {
@@ -35,7 +46,11 @@ public final class RulesTest {
     public static void main(String[] args) throws Exception {
         face();
         classes();
-        words(Files.readString(Path.of("src/main/java/FourPhases.java"), StandardCharsets.ISO_8859_1));
+        String source = Files.readString(Path.of("src/main/java/FourPhases.java"), StandardCharsets.ISO_8859_1);
+        words(source);
+        madeInConstructorsAlone(source);
+        depthOfCalls(source);
+        room();
         if (wrong != 0) {
             System.exit(1);
         }
@@ -123,5 +138,127 @@ public final class RulesTest {
                 hold(i - start < MOST_LINES || lines[start].contains("class"), "a long method at line " + (start + 1));
             }
         }
+    }
+
+    /** No text and no list, so that nothing but "new" makes an object; and it stands in fields and constructors alone. */
+    private static void madeInConstructorsAlone(String source) {
+        String method = "";
+        for (String line : source.split("\n")) {
+            if (line.matches("( {4}){1,2}[A-Za-z].*\\) \\{")) {
+                method = line.trim();
+            }
+            boolean comment = line.trim().startsWith("*") || line.trim().startsWith("/");
+            if (line.contains("new ") && !comment) {
+                boolean field = line.matches(" +final .* = new .*;");
+                boolean constructor = method.matches("(public )?[A-Z][A-Za-z]*\\(\\) \\{");
+                hold(field || constructor, "an object is made in " + method);
+            }
+            hold(!line.contains("\"") && !line.contains(".clone"), "a text or a clone in " + method);
+        }
+    }
+
+    /** The body of each method and constructor, by "class.name". */
+    private static Map<String, String> bodies(String source) {
+        Map<String, String> bodies = new TreeMap<>();
+        Pattern type = Pattern.compile(" {4}private static final class ([A-Za-z]+) \\{");
+        Pattern head = Pattern.compile("( {4}| {8})(?:[a-z]+ )*(?:[A-Za-z]+ )?([A-Za-z]+)\\(.*\\) \\{");
+        String inside = "FourPhases";
+        String method = "";
+        String end = "";
+        for (String line : source.split("\n")) {
+            Matcher classStart = type.matcher(line);
+            Matcher start = head.matcher(line);
+            if (classStart.matches()) {
+                inside = classStart.group(1);
+            } else if (method.isEmpty() && start.matches()) {
+                method = inside + "." + start.group(2);
+                end = start.group(1) + "}";
+                hold(!bodies.containsKey(method), "two methods " + method);
+                bodies.put(method, "");
+            } else if (line.equals(end)) {
+                method = "";
+            } else if (!method.isEmpty()) {
+                bodies.put(method, bodies.get(method) + line + "\n");
+            }
+        }
+        return bodies;
+    }
+
+    /** A name that several classes have counts for each of them, so the depth is rather told too great than too small. */
+    private static void depthOfCalls(String source) {
+        Map<String, String> bodies = bodies(source);
+        hold(bodies.size() > FACE.length + 40, "only " + bodies.size() + " methods were found");
+        hold(depth("Line.offer", bodies, 1) == 3, "offer, makeRequest, insert are three: the calls are not found");
+        for (String method : bodies.keySet()) {
+            hold(depth(method, bodies, 1) <= DEEPEST_CALLS, method + " goes too deep, or calls itself");
+        }
+    }
+
+    private static int depth(String method, Map<String, String> bodies, int level) {
+        int deepest = level;
+        if (level > DEEPEST_CALLS) {
+            return level;
+        }
+        String inside = method.substring(0, method.indexOf('.') + 1);
+        Matcher call = Pattern.compile("(\\.|new )?\\b([A-Za-z]+)\\(").matcher(bodies.get(method));
+        while (call.find()) {
+            for (String other : bodies.keySet()) {
+                boolean mayBe = call.group(1) == null ? other.startsWith(inside) : !other.equals(method);
+                if (mayBe && other.endsWith("." + call.group(2))) {
+                    deepest = Math.max(deepest, depth(other, bodies, level + 1));
+                }
+            }
+        }
+        return deepest;
+    }
+
+    /** What an object holds is little, and no call adds to it. */
+    private static void room() throws IllegalAccessException {
+        FourPhases x = new FourPhases();
+        int[] before = size(x);
+        hold(before[0] <= MOST_OBJECTS && before[1] <= MOST_ELEMENTS, "room " + Arrays.toString(before));
+        for (int i = 0; i < 60; i++) {
+            x.add(i % 2, i % 16);
+            x.type("a1,".charAt(i % 3));
+            x.perform();
+            x.keep();
+            x.run(11);
+            x.dearest();
+            x.leastLead();
+            x.restore();
+        }
+        int[] after = size(x);
+        hold(Arrays.equals(before, after), "room " + Arrays.toString(before) + ", later " + Arrays.toString(after));
+    }
+
+    /** How many objects and arrays there are behind an object, and how many fields and elements these have. */
+    private static int[] size(Object root) throws IllegalAccessException {
+        Map<Object, Boolean> seen = new IdentityHashMap<>();
+        ArrayDeque<Object> open = new ArrayDeque<>();
+        open.add(root);
+        int elements = 0;
+        while (!open.isEmpty()) {
+            Object next = open.remove();
+            if (seen.put(next, true) != null) {
+                continue;
+            }
+            if (next.getClass().isArray()) {
+                elements += Array.getLength(next);
+                if (next instanceof Object[]) {
+                    open.addAll(Arrays.asList((Object[]) next));
+                }
+                continue;
+            }
+            for (Field field : next.getClass().getDeclaredFields()) {
+                if (!Modifier.isStatic(field.getModifiers())) {
+                    elements++;
+                    field.setAccessible(true);
+                    if (!field.getType().isPrimitive()) {
+                        open.add(field.get(next));
+                    }
+                }
+            }
+        }
+        return new int[] {seen.size(), elements};
     }
 }
