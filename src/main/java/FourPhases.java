@@ -818,7 +818,8 @@ public final class FourPhases {
         /** Stands for what is behind the end: it is allowed nowhere, so that the end is a fault like a wrong sign. */
         private static final int END = -1;
         private static final int NO_DIGIT = -1;
-        final char[] characters = new char[MOST_CHARACTERS];
+        /** By their numbers, because any character may be typed, also one above 255. */
+        final int[] characters = new int[MOST_CHARACTERS];
         int length;
         final int[] letters = new int[MOST_ORDERS];
         final int[] targets = new int[MOST_ORDERS];

@@ -109,6 +109,7 @@ public final class RulesTest {
                     hold(Modifier.isFinal(f.getModifiers()) && f.getType() == int.class, "static " + f);
                 } else {
                     fields++;
+                    hold(isNumbersOrOwn(f.getType()), "the kind of " + f);
                 }
             }
             hold(fields <= MOST_FIELDS, "fields of " + c);
@@ -116,6 +117,12 @@ public final class RulesTest {
                 hold(m.getParameterCount() <= MOST_PARAMETERS, "parameters of " + m);
             }
         }
+    }
+
+    /** A text would hold characters up to 255 alone, and any may be typed: so there is none, and no row of them. */
+    private static boolean isNumbersOrOwn(Class<?> type) {
+        Class<?> kind = type.isArray() ? type.getComponentType() : type;
+        return kind == int.class || type == boolean.class || Arrays.asList(allClasses()).contains(kind);
     }
 
     private static void words(String source) {
